@@ -35,6 +35,7 @@ public final class RumourReasoner {
     private static final int ALL_VALUES = 15;
     private static final int VALUATIONS = 4096;
     private static final int WORDS = 64;
+    private static final long FIRST_DIGEST = 131L;
 
     // Steady formulas never take back what they told, so a round that changes something sets one of 12 bits for good.
     private static final int MOST_ROUNDS = 2 * ATOMS;
@@ -163,7 +164,7 @@ public final class RumourReasoner {
         requireValue(value);
         int before = valueIn(reports[source], atom);
         int others = reports[source] & ~(BOTH << placeOf(atom));
-        reports[source] = others | value << placeOf(atom);
+        reports[source] = others | (value << placeOf(atom));
         return before;
     }
 
@@ -201,21 +202,30 @@ public final class RumourReasoner {
 
     public int given(int atom) throws IndexOutOfBoundsException {
         requireAtom(atom);
-        return valueIn(givenState(heardSet()), atom);
+        return valueIn(givenState(heard()), atom);
     }
 
     public int settled(int atom) throws IndexOutOfBoundsException {
         requireAtom(atom);
-        return valueIn(settledState(heardSet()), atom);
+        return valueIn(settledNow(), atom);
     }
 
     public int rounds() {
-        return lastRound();
+        int first = givenState(heard());
+        int state = first;
+        for (int round = 0; round < MOST_ROUNDS; round++) {
+            int next = nextState(first, state);
+            if (next == state) {
+                return round;
+            }
+            state = next;
+        }
+        return MOST_ROUNDS;
     }
 
     public int since(int atom, boolean isTrue) throws IndexOutOfBoundsException {
         requireAtom(atom);
-        int first = givenState(heardSet());
+        int first = givenState(heard());
         int state = first;
         for (int round = 0; round <= MOST_ROUNDS; round++) {
             if (isTold(valueIn(state, atom), isTrue)) {
@@ -228,19 +238,19 @@ public final class RumourReasoner {
 
     public int value(int formula) throws IndexOutOfBoundsException {
         requireFormula(formula);
-        return lookUp(formula, settledState(heardSet()));
+        return lookUp(formula, settledNow());
     }
 
     public int conflicts() {
-        return atomsWith(settledState(heardSet()), BOTH);
+        return atomsWith(settledNow(), BOTH);
     }
 
     public int gaps() {
-        return atomsWith(settledState(heardSet()), NONE);
+        return atomsWith(settledNow(), NONE);
     }
 
     public double discord() {
-        int state = settledState(heardSet());
+        int state = settledNow();
         int told = ATOMS - Integer.bitCount(atomsWith(state, NONE));
         if (told == 0) {
             return 0.0;
@@ -251,7 +261,13 @@ public final class RumourReasoner {
     // ---- sources
 
     public int heard() {
-        return heardSet();
+        int set = 0;
+        for (int source = 0; source < SOURCES; source++) {
+            if (isHeard(source)) {
+                set |= 1 << source;
+            }
+        }
+        return set;
     }
 
     public int sayers(int atom, boolean isTrue) throws IndexOutOfBoundsException {
@@ -268,14 +284,14 @@ public final class RumourReasoner {
     public boolean matters(int source, int atom) throws IndexOutOfBoundsException {
         requireSource(source);
         requireAtom(atom);
-        int all = heardSet();
+        int all = heard();
         int without = all & ~(1 << source);
         // A source that is not heard leaves the set as it is, and so matters to nothing.
         return valueIn(settledState(all), atom) != valueIn(settledState(without), atom);
     }
 
     public int silence() {
-        int all = heardSet();
+        int all = heard();
         int best = -1;
         int bestSum = SOURCES * MOST_TRUST + 1;
         for (int set = 0; set < 1 << SOURCES; set++) {
@@ -292,7 +308,7 @@ public final class RumourReasoner {
 
     public int contradicted(int source) throws IndexOutOfBoundsException {
         requireSource(source);
-        int state = settledState(heardSet());
+        int state = settledNow();
         int number = 0;
         for (int atom = 0; atom < ATOMS; atom++) {
             if (isAgainst(valueIn(reports[source], atom), valueIn(state, atom))) {
@@ -340,15 +356,21 @@ public final class RumourReasoner {
     }
 
     public boolean entails(int a, int b) throws IndexOutOfBoundsException {
-        requireFormula(a);
-        requireFormula(b);
-        return firstAgainst(a, b) < 0;
+        return against(a, b) == -1;
     }
 
     public int against(int a, int b) throws IndexOutOfBoundsException {
         requireFormula(a);
         requireFormula(b);
-        return firstAgainst(a, b);
+        int left = rowOf(a);
+        int right = rowOf(b);
+        for (int word = 0; word < WORDS; word++) {
+            long found = trueSets[left + word] & ~trueSets[right + word] & logicWord(word);
+            if (found != 0L) {
+                return word * WORDS + lowestBit(found);
+            }
+        }
+        return -1;
     }
 
     public boolean areEqual(int a, int b) throws IndexOutOfBoundsException {
@@ -357,9 +379,7 @@ public final class RumourReasoner {
         int left = rowOf(a);
         int right = rowOf(b);
         for (int word = 0; word < WORDS; word++) {
-            long differing = trueSets[left + word] ^ trueSets[right + word]
-                    | falseSets[left + word] ^ falseSets[right + word];
-            if ((differing & logicWord(word)) != 0L) {
+            if ((differing(left + word, right + word, 0) & logicWord(word)) != 0L) {
                 return false;
             }
         }
@@ -372,7 +392,7 @@ public final class RumourReasoner {
         // If the formula differs between two values of the atom, it differs between the least value and one of them.
         int least = lowestBit(logic);
         for (int v = least + 1; v <= BOTH; v++) {
-            if ((logic >>> v & 1) != 0 && isChanged(formula, atom, least, v)) {
+            if (((logic >>> v) & 1) != 0 && isChanged(formula, atom, least, v)) {
                 return true;
             }
         }
@@ -388,9 +408,9 @@ public final class RumourReasoner {
     }
 
     public long digest() {
-        int first = givenState(heardSet());
-        int last = settledState(heardSet());
-        long d = mix(131L, count);
+        int first = givenState(heard());
+        int last = settledNow();
+        long d = mix(FIRST_DIGEST, count);
         for (int formula = 0; formula < count; formula++) {
             d = mix(d, kinds[formula]);
         }
@@ -407,8 +427,12 @@ public final class RumourReasoner {
             d = mix(d, valueIn(first, atom));
             d = mix(d, valueIn(last, atom));
         }
-        d = mix(d, lastRound());
+        d = mix(d, rounds());
         return mix(d, logic);
+    }
+
+    private static long mix(long d, int x) {
+        return d * 31L + x;
     }
 
     // ---- what calls must bring
@@ -457,16 +481,12 @@ public final class RumourReasoner {
 
     // ---- values and states
 
-    private static long mix(long d, int x) {
-        return d * 31L + x;
-    }
-
     private static int placeOf(int atom) {
         return 2 * (ATOMS - 1 - atom);
     }
 
     private static int valueIn(int state, int atom) {
-        return state >>> placeOf(atom) & BOTH;
+        return (state >>> placeOf(atom)) & BOTH;
     }
 
     private static boolean isTold(int v, boolean isTrue) {
@@ -474,7 +494,7 @@ public final class RumourReasoner {
     }
 
     private static boolean isAgainst(int said, int held) {
-        return isTold(said, true) && isTold(held, false) || isTold(said, false) && isTold(held, true);
+        return (isTold(said, true) && isTold(held, false)) || (isTold(said, false) && isTold(held, true));
     }
 
     private static int atomsWith(int state, int v) {
@@ -506,7 +526,7 @@ public final class RumourReasoner {
         if (bit < NUMBERS_WITH_BIT.length) {
             return NUMBERS_WITH_BIT[bit];
         }
-        return (word >>> bit - NUMBERS_WITH_BIT.length & 1) != 0 ? -1L : 0L;
+        return ((word >>> (bit - NUMBERS_WITH_BIT.length)) & 1) != 0 ? -1L : 0L;
     }
 
     private static long joinTrue(int kind, long leftTrue, long rightTrue) {
@@ -538,8 +558,8 @@ public final class RumourReasoner {
     private int lookUp(int formula, int valuation) {
         int index = rowOf(formula) + valuation / WORDS;
         int bit = valuation % WORDS;
-        int isTrue = (int) (trueSets[index] >>> bit & 1L);
-        int isFalse = (int) (falseSets[index] >>> bit & 1L);
+        int isTrue = (int) ((trueSets[index] >>> bit) & 1L);
+        int isFalse = (int) ((falseSets[index] >>> bit) & 1L);
         return isTrue * TOLD_TRUE + isFalse * TOLD_FALSE;
     }
 
@@ -553,20 +573,10 @@ public final class RumourReasoner {
         return on[source] && trusts[source] >= leastTrust;
     }
 
-    private int heardSet() {
-        int set = 0;
-        for (int source = 0; source < SOURCES; source++) {
-            if (isHeard(source)) {
-                set |= 1 << source;
-            }
-        }
-        return set;
-    }
-
     private int trustOf(int sources) {
         int sum = 0;
         for (int source = 0; source < SOURCES; source++) {
-            if ((sources >>> source & 1) != 0) {
+            if (((sources >>> source) & 1) != 0) {
                 sum += trusts[source];
             }
         }
@@ -576,7 +586,7 @@ public final class RumourReasoner {
     private int givenState(int sources) {
         int state = 0;
         for (int source = 0; source < SOURCES; source++) {
-            if ((sources >>> source & 1) != 0) {
+            if (((sources >>> source) & 1) != 0) {
                 state |= reports[source];
             }
         }
@@ -593,6 +603,10 @@ public final class RumourReasoner {
         return next;
     }
 
+    private int settledNow() {
+        return settledState(heard());
+    }
+
     private int settledState(int sources) {
         int first = givenState(sources);
         int state = first;
@@ -606,26 +620,13 @@ public final class RumourReasoner {
         return state;
     }
 
-    private int lastRound() {
-        int first = givenState(heardSet());
-        int state = first;
-        for (int round = 0; round < MOST_ROUNDS; round++) {
-            int next = nextState(first, state);
-            if (next == state) {
-                return round;
-            }
-            state = next;
-        }
-        return MOST_ROUNDS;
-    }
-
     // ---- valuations of the logic
 
     private static long triplesOf(int values) {
         long set = 0L;
         for (int triple = 0; triple < WORDS; triple++) {
             int high = values >>> (triple >>> 4);
-            int middle = values >>> (triple >>> 2 & BOTH);
+            int middle = values >>> ((triple >>> 2) & BOTH);
             int low = values >>> (triple & BOTH);
             if ((high & middle & low & 1) != 0) {
                 set |= 1L << triple;
@@ -635,41 +636,31 @@ public final class RumourReasoner {
     }
 
     private long logicWord(int word) {
-        return (logicTriples >>> word & 1L) != 0L ? logicTriples : 0L;
+        return ((logicTriples >>> word) & 1L) != 0L ? logicTriples : 0L;
     }
 
     private static int lowestBit(long bits) {
         return Long.bitCount((bits & -bits) - 1L);
     }
 
-    private int firstAgainst(int a, int b) {
-        int left = rowOf(a);
-        int right = rowOf(b);
-        for (int word = 0; word < WORDS; word++) {
-            long found = trueSets[left + word] & ~trueSets[right + word] & logicWord(word);
-            if (found != 0L) {
-                return word * WORDS + lowestBit(found);
-            }
-        }
-        return -1;
+    private long differing(int index, int other, int shift) {
+        long inTrue = trueSets[index] ^ (trueSets[other] >>> shift);
+        long inFalse = falseSets[index] ^ (falseSets[other] >>> shift);
+        return inTrue | inFalse;
     }
 
     private boolean isChanged(int formula, int atom, int from, int to) {
         int row = rowOf(formula);
         int place = placeOf(atom);
-        int step = to - from << place;
+        int step = (to - from) << place;
         for (int word = 0; word < WORDS; word++) {
             long starts = logicWord(word)
                     & pick(valuationsWithBit(place, word), valuationsWithBit(place + 1, word), from);
             // An atom has its two bits either both in the word's number or both in the bit's, so one of these is 0.
             int other = word + step / WORDS;
             int shift = step % WORDS;
-            if (starts != 0L && other < WORDS) {
-                long differing = trueSets[row + word] ^ trueSets[row + other] >>> shift
-                        | falseSets[row + word] ^ falseSets[row + other] >>> shift;
-                if ((differing & starts) != 0L) {
-                    return true;
-                }
+            if (starts != 0L && other < WORDS && (differing(row + word, row + other, shift) & starts) != 0L) {
+                return true;
             }
         }
         return false;

@@ -115,7 +115,8 @@ public final class FaceTest {
         for (Field field : type.getDeclaredFields()) {
             int modifiers = field.getModifiers();
             check(Modifier.isPrivate(modifiers), field.getName() + " is private");
-            check(!Modifier.isStatic(modifiers) || Modifier.isFinal(modifiers), field.getName() + " is final if static");
+            check(!Modifier.isStatic(modifiers) || Modifier.isFinal(modifiers),
+                    field.getName() + " is final if static");
             number += Modifier.isStatic(modifiers) ? 0 : 1;
         }
         check(number <= 20, "some twenty fields at most");

@@ -474,7 +474,10 @@ public final class ModelTest {
             switch (method) {
                 case 0: case 11: case 12: case 23: return new int[] {pick(0, 5), 0, 0};
                 case 1: return new int[] {pick(0, 3), 0, 0};
-                case 2: return new int[] {random.nextInt(8) == 0 ? pick(0, 9) : 2 + 6 * random.nextInt(2), formula(), 0};
+                case 2: {
+                    int kind = random.nextInt(8) == 0 ? pick(0, 9) : 2 + 6 * random.nextInt(2);
+                    return new int[] {kind, formula(), 0};
+                }
                 case 3: return new int[] {pick(3, random.nextInt(3) == 0 ? 7 : 6), formula(), formula()};
                 case 5: case 15: case 25: case 26: return new int[] {formula(), 0, 0};
                 case 6: return new int[] {pick(0, 5), pick(0, 5), pick(0, 3)};
