@@ -69,8 +69,9 @@ public final class DescriptionEdgesTest {
         for (int f = 0; f < 40; f++) {
             Edges.due("the number of formula " + f, create(x, f), f);
         }
-        for (int f = 0; f < 4; f++) {
-            Edges.due("the 41st formula", Edges.answer(x, created(f)), Edges.STATE.getName());
+        for (int f = 36; f < 40; f++) {
+            int again = f;
+            Edges.due("the 41st formula", Edges.answer(x, y -> create(y, again)), Edges.STATE.getName());
         }
         Edges.due("formulaCount()", x.formulaCount(), 40);
         Edges.due("the kinds of the 40, by the digest", x.digest(), digestOfForty());
@@ -94,10 +95,6 @@ public final class DescriptionEdgesTest {
             case 2: return x.turn(2, f - 1);
             default: return x.join(3, f - 1, f - 2);
         }
-    }
-
-    private static Edges.Call created(int f) {
-        return f == 0 ? x -> x.atom(0) : f == 1 ? x -> x.constant(0) : f == 2 ? x -> x.turn(2, 0) : x -> x.join(3, 0, 1);
     }
 
     private static long digestOfForty() {

@@ -84,7 +84,7 @@ public final class PromiseEdgesTest {
         sentence("Throws IndexOutOfBoundsException if " + text + " is not 0 to 5");
         for (Edges.CallWith call : calls) {
             Edges.takenEach(Edges::fresh, 0, 5, call);
-            Edges.takenEach(Edges::full, 0, 5, call);
+            Edges.takenEach(Edges::busy, 0, 5, call);
             Edges.refusedEach(Edges::fresh, Edges.INDEX, Edges.NOT_SIX, call);
             Edges.refusedEach(Edges::busy, Edges.INDEX, Edges.NOT_SIX, call);
         }
@@ -176,13 +176,9 @@ public final class PromiseEdgesTest {
         }
         sentence("Returns the number of the formula.");
         numbers(x -> x.atom(5));
-        notSix("p", PromiseEdgesTest::atomOnce);
+        notSix("p", (x, p) -> x.atom(p));
+        Edges.refusedEach(Edges::full, Edges.INDEX, Edges.NOT_SIX, (x, p) -> x.atom(p));
         fortyFormulas(x -> x.atom(0), x -> x.atom(5));
-    }
-
-    /** On an object with 40 formulas, a good p is refused for another reason: that is not what is asked here. */
-    private static Object atomOnce(RumourReasoner x, int p) {
-        return x.formulaCount() == 40 ? Integer.valueOf(0) : Integer.valueOf(x.atom(p));
     }
 
     private static void numbers(Edges.Call call) {
@@ -1251,7 +1247,7 @@ public final class PromiseEdgesTest {
         due("a formula of each kind", x.digest(), new Numbers(0, 1, 2, 3, 4, 5, 6, 7, 8).sum());
     }
 
-    /** The numbers of the checksum, at first those of a new object; added up without a bound and cut to 64 bits then. */
+    /** The numbers of the checksum, at first those of a new object; summed up without a bound, then cut to 64 bits. */
     private static final class Numbers {
         int[] kinds;
         int least = 1;
