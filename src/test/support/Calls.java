@@ -7,7 +7,7 @@ import java.util.Random;
 
 /** The calls of the document's face by their names, made on a RumourReasoner, and arguments for them by chance. */
 final class Calls {
-    // Each method, what its parameters are, and behind a bar the exceptions that it names (I index, A argument, S state).
+    // Each method, its parameters, and behind a bar the exceptions that it names (I index, A argument, S state).
     private static final String[] FACE = {
         "atom six | I S", "constant value | A S", "turn turn formula | I A S", "join join formula formula | I A S",
         "formulaCount |", "isSteady formula | I", "report six six value | I A", "setTrust six trust | I A",
